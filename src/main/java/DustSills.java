@@ -278,7 +278,7 @@ public final class DustSills {
         for (int n = 0; n <= AHEAD; n++) {
             int there = thought.dustAt(sill);
             if (there != 0) {
-                return what == 0 ? n : Integer.numberOfTrailingZeros(there);
+                return what == 0 ? n : leastOf(there);
             }
             thought.goDay(papers);
         }
@@ -791,6 +791,14 @@ public final class DustSills {
             k = ABOVE[k];
         }
         return false;
+    }
+
+    private static int leastOf(int set) {
+        int h = 0;
+        while (h < HEIRS && (set >> h & 1) == 0) {
+            h++;
+        }
+        return h;
     }
 
     private static int greatestDivisor(int one, int other) {

@@ -167,7 +167,8 @@ public final class PromiseTest {
         due("town(1, 30)", x.town(1, 30), 7);
         due("town(1, 1)", x.town(1, 1), 30);
         due("town(2, 99999)", x.town(2, 99999), 0);
-        due("town(2, 12)", x.town(2, 12), 99999);
+        due("town(2, 0)", x.town(2, 0), 99999);
+        due("town(2, 12)", x.town(2, 12), 0);
         due("town(0, 10)", x.town(0, 10), BEYOND);
         due("town(0, -1)", x.town(0, -1), BEYOND);
         due("town(1, 0)", x.town(1, 0), BEYOND);
@@ -273,7 +274,8 @@ public final class PromiseTest {
         due("change(0, 1, 0), told DUST anew", x.change(0, 1, 0), 0);
         due("AT its LOT anew", x.ofHeir(0, 4), 15);
         due("change(0, 3, 9999)", x.change(0, 3, 9999), 0);
-        due("change(0, 3, 7)", x.change(0, 3, 7), 9999);
+        due("change(0, 3, 0)", x.change(0, 3, 0), 9999);
+        due("change(0, 3, 7)", x.change(0, 3, 7), 0);
         int[][] off = {{1, 0, 0}, {-1, 0, 0}, {0, -1, 0}, {0, 4, 0}, {0, 0, -1}, {0, 0, 16}, {0, 1, -1}, {0, 1, 100},
             {0, 2, -1}, {0, 2, 16}, {0, 3, -1}, {0, 3, 10000}};
         for (int[] o : off) {
@@ -352,7 +354,7 @@ public final class PromiseTest {
             {"(!!!!!c)", -15}, {"(c", -12}, {"(c))", -13}, {"c)", -11}, {"()", -11}, {"c d", -11}, {" c", -10},
             {"cd", -11}, {"3c", -11}, {"c3", -11}, {"c!d", -11}, {"c!", -11}, {"-c", -10}, {"c--d", -12}, {"c*/d", -12},
             {"!", -11}, {"(", -11}, {"c(", -11}, {"(c<d)<p", 1}, {"(c<d<p)", -14}, {"c|", -12}, {"c||d", -12},
-            {"!c<!d", 1}, {"c%d%p", 1}, {"C", -10}};
+            {"!c<!d", 1}, {"c%d%p", 1}, {"(c|d)&(p|c&d)", 1}, {"C", -10}};
         for (Object[] f : faults) {
             due("text of " + f[0], write(x, 0, (String) f[0]), (Integer) f[1]);
             due("THE TAPE is empty", x.count(7), 0);
@@ -383,10 +385,11 @@ public final class PromiseTest {
         due("law(2, ..)", x.law(2, 0, 0, 0), BEYOND);
         Object[][] worth = {{"l", 7}, {"s", 3}, {"d", 2}, {"l+s*d", 13}, {"(l+s)*d", 20}, {"l-s-d", 2}, {"l/s/d", 1},
             {"l/d*s", 9}, {"l%s", 1}, {"l/0", 0}, {"l%0", 0}, {"l<s", 0}, {"s<l", 1}, {"l>s", 1}, {"s>l", 0}, {"l=7", 1},
-            {"l=s", 0}, {"s<s", 0}, {"s>s", 0}, {"!l", 0}, {"!0", 1}, {"!!l", 1}, {"!l+5", 5}, {"l&s", 1}, {"l&0", 0},
+            {"l=s", 0}, {"s<s", 0}, {"s>s", 0}, {"!l", 0}, {"l", 7}, {"!0", 1}, {"!!l", 1}, {"!l+5", 5}, {"l&s", 1}, {"l&0", 0},
             {"0&l", 0}, {"0|0", 0}, {"0|l", 1}, {"l|0", 1}, {"1|0&0", 1}, {"l+1<s*4&d", 1}, {"(0-l)/s+10", 8},
             {"(0-l)%s+10", 9}, {"0-l/s+10", 8}, {"0007", 7}, {"99", 99}, {"9999", 99}, {"0-1", 0},
-            {"9999*9999*9999>0", 0}, {"l*s+d=23", 1}, {"2*3%4", 2}, {"100-l%4*9", 73}, {"!(l<s)", 1}};
+            {"9999*9999*9999>0", 0}, {"l*s+d=23", 1}, {"2*3%4", 2}, {"100-l%4*9", 73}, {"!(l<s)", 1}, {"(0|0)+4", 4},
+            {"(0&l)+4", 4}, {"(l<s)+4", 4}, {"(l=s)+4", 4}, {"(s>l)+4", 4}, {"!l+4", 4}, {"l/0+4", 4}, {"l%0+4", 4}};
         for (Object[] w : worth) {
             due("text of " + w[0], write(x, 1, (String) w[0]), 1);
             due("law by " + w[0], x.law(1, 7, 3, 2), (Integer) w[1]);
@@ -472,6 +475,10 @@ public final class PromiseTest {
         // 2 are DUST: 5 CARTS come; each has 36.
         due("days(1)", x.days(1), 138);
         row("AT", ofHeirs(x, 4), 8, 13);
+        x.change(0, 1, 9);
+        due("then(1, 1), 1 being DUST", x.then(1, 1), 0);
+        x.change(0, 1, 0);
+        x.change(0, 2, 8);
         write(x, 0, "c*99");
         write(x, 1, "9999");
         due("days(1), held to 9 and 99", x.days(1), 336);
@@ -485,6 +492,13 @@ public final class PromiseTest {
         int was = x.count(4);
         due("DAY", x.count(1), 22);
         due("d is 22, 23, 0", x.days(3), was + 90);
+        // On the DAYS 25 to 48 d is 1 to 23, and 0 again: each with as many CARTS, held to 9.
+        write(x, 0, "d");
+        due("then(1, 0)", x.then(1, 0), 2);
+        due("then(3, 0)", x.then(3, 0), 7);
+        due("then(23, 0)", x.then(23, 0), (1 + 45 + 14 * 9) % 16);
+        due("then(24, 0)", x.then(24, 0), (1 + 45 + 14 * 9) % 16);
+        due("then(25, 0)", x.then(25, 0), (1 + 45 + 14 * 9 + 1) % 16);
     }
 
     private static void farDays() {
@@ -498,9 +512,19 @@ public final class PromiseTest {
         due("loose(41)", x.loose(41), BEYOND);
         due("z", x.count(10), 1);
         due("days(61)", x.days(61), BEYOND);
-        x.days(39);
+        x.days(38);
+        due("loose(2)", x.loose(2), STATE);
+        x.image();
+        due("days(1)", x.days(1) >= 0 ? 1 : 0, 1);
+        due("DAY", x.count(1), 9999);
+        x.restore();
+        due("loose(1)", x.loose(1) >= 0 ? 1 : 0, 1);
         due("DAY", x.count(1), 9999);
         due("days(1)", x.days(1), STATE);
+        for (int i = 0; i < 16; i++) {
+            x.sill(i, 1, (i + 1) % 16);
+        }
+        x.town(0, 1);
         due("loose(1)", x.loose(1), STATE);
         due("days(0)", x.days(0), BEYOND);
         // DAYS 9999 and 10000 are only thought: by 1 CART from AT on.
@@ -675,6 +699,8 @@ public final class PromiseTest {
         due("cartsFor(4, 8)", x.cartsFor(4, 8), NONE);
         due("cartsFor(7, 8)", x.cartsFor(7, 8), NONE);
         due("cartsFor(4, 9)", x.cartsFor(4, 9), 9);
+        x.sill(8, 0, 4);
+        due("cartsFor(1, 1) with 0 alone", x.cartsFor(1, 1), 0);
         due("CARTS", x.count(2), 1);
         due("cartsFor(8, 1)", x.cartsFor(8, 1), BEYOND);
         due("cartsFor(-1, 1)", x.cartsFor(-1, 1), BEYOND);
@@ -695,6 +721,11 @@ public final class PromiseTest {
         due("stop(0, 3), of several the least", x.stop(0, 3), 1);
         due("TO", x.ofSill(1, 1), 2);
         due("stop(0, 20)", x.stop(0, 20), 1);
+        x.sill(0, 0, 9);
+        x.sill(1, 0, 8);
+        due("stop(0, 3) at 0", x.stop(0, 3), 0);
+        x.sill(0, 0, 0);
+        x.sill(1, 0, 9);
         due("stop(0, 21)", x.stop(0, 21), BEYOND);
         due("stop(0, -1)", x.stop(0, -1), BEYOND);
         due("stop(1, 0)", x.stop(1, 0), BEYOND);
@@ -739,6 +770,20 @@ public final class PromiseTest {
         lay(x, 0, 0, 0, 0, 0, 9);
         // AUNT 2 has 0 at 5; with HEIR 0 or 1 she has 9, and it 9: 18; with GENERAL 3 it is 9 and 15.
         due("swap(1) of the latter two", x.swap(1), 23);
+        DustSills z = one(40, 0, 1);
+        z.heir(60, 9, 1);
+        lay(z, 0, 3, 3, 3, 3, 3, 3, 3, 3, 9);
+        // The GENERAL would have 15 in place of 0, the GIRL 9 in place of 0.
+        due("swap(1) of two", z.swap(1), 1);
+        z.sill(0, 0, 9);
+        z.sill(9, 0, 0);
+        // 15 and 9 as it is.
+        due("swap(1) of two, as it is best", z.swap(1), -1);
+        z.become(1, 40);
+        z.heir(30, 9, 1);
+        z.sill(9, 0, 3);
+        // 15, 3 and 6; whoever changes with 0 makes it no more.
+        due("swap(1) of three, as it is best", z.swap(1), -1);
         x.become(3, 0);
         due("swap(1), of several the least", x.swap(1), 2);
         DustSills y = one(40, 0, 0);
@@ -802,6 +847,20 @@ public final class PromiseTest {
         x.sill(15, 0, 0);
         x.sill(8, 0, 9);
         due("sweepFor(0, 60) by 8 CARTS", x.sweepFor(0, 60), 1);
+        longSweep();
+    }
+
+    private static void longSweep() {
+        DustSills x = one(0, 0, 0);
+        x.sill(0, 1, 0);
+        x.sill(2, 1, 2);
+        x.sill(2, 0, 0);
+        x.change(0, 2, 2);
+        write(x, 1, "s<1");
+        // It gains 1 a DAY in the dark, until it is swept to the light, and stays there.
+        due("sweepFor(0, 60) of the dark", x.sweepFor(0, 60), 30);
+        due("sweepFor(0, 30) of the dark", x.sweepFor(0, 30), 30);
+        due("sweepFor(0, 29) of the dark", x.sweepFor(0, 29), 29);
     }
 
     private static void whence() {
@@ -870,6 +929,15 @@ public final class PromiseTest {
         due("crowd(3, 1)", x.crowd(3, 1), 2);
         due("crowd(60, 1)", x.crowd(60, 1), 2);
         due("crowd(18, 1)", x.crowd(18, 1), 3);
+        x.change(0, 2, 0);
+        x.change(1, 2, 0);
+        due("crowd(0, 0) at 0", x.crowd(0, 0), 0);
+        due("crowd(0, 1) at 0", x.crowd(0, 1), 2);
+        x.change(0, 2, 15);
+        x.change(1, 2, 15);
+        due("crowd(0, 0) at 15", x.crowd(0, 0), 15);
+        due("crowd(0, 0) of none", new DustSills().crowd(0, 0), 0);
+        due("crowd(60, 1) of none", new DustSills().crowd(60, 1), 0);
         due("crowd(61, 0)", x.crowd(61, 0), BEYOND);
         due("crowd(-1, 0)", x.crowd(-1, 0), BEYOND);
         due("crowd(0, 2)", x.crowd(0, 2), BEYOND);
@@ -906,6 +974,9 @@ public final class PromiseTest {
         due("late(16)", x.late(16), BEYOND);
         due("late(-1)", x.late(-1), BEYOND);
         due("late(MIN)", x.late(MIN), BEYOND);
+        x.change(0, 1, 5);
+        due("late(1)", x.late(1), 5);
+        due("late(3)", x.late(3), 7);
         due("late(1) of none", new DustSills().late(1), BEYOND);
     }
 
@@ -1169,6 +1240,13 @@ public final class PromiseTest {
         due("the second isn't so", x.judge(0), 1);
         fill(x, 0, 8, 5, 15);
         due("the first isn't so", x.judge(0), 0);
+        for (int i = 2; i < 8; i++) {
+            x.heir(0, i, 0);
+        }
+        fill(x, 0, 8, 4, 15, 2, 3, 4, 5, 6, 7);
+        due("all 8 are", x.judge(0), -1);
+        fill(x, 0, 8, 4, 15, 2, 3, 4, 5, 6, 7, 0);
+        due("a ninth", x.judge(0), 8);
         row("told", errors(x), 2, 1, 0, 0, 0);
     }
 
@@ -1224,6 +1302,14 @@ public final class PromiseTest {
         due("restore(), which stays", x.restore(), 3);
         due("law(1, ..)", x.law(1, 0, 0, 0), 5);
         due("check() of what waited", x.check(), 1);
+        DustSills y = one(0, 0, 0);
+        y.tell(3);
+        y.tell(6);
+        y.image();
+        y.check();
+        y.tell(4);
+        y.restore();
+        due("check() of what waited", y.check(), 0);
         imagesAnew();
     }
 
@@ -1280,6 +1366,8 @@ public final class PromiseTest {
         x.tell(23);
         due("check(), the third isn't so", x.check(), 3);
         due("none wait", x.count(8), 0);
+        x.tell(13);
+        due("check() of one", x.check(), 0);
         x.tell(10);
         due("check(), not GLORY now", x.check(), 1);
         due("DAY", x.count(1), 0);
