@@ -6,6 +6,8 @@ import java.util.Random;
 public final class ModelTest {
     private static final int RUNS = 700;
     private static final int CALLS = 500;
+    /** The document promises 512 calls; one act here makes up to so many, where it looks at all. */
+    private static final int MOST_AT_ONCE = 200;
     private static final int[] ODD = {-1, Integer.MIN_VALUE, Integer.MAX_VALUE, -1000000001, 100000, -7};
 
     private final Random r;
@@ -292,7 +294,7 @@ public final class ModelTest {
         if (r.nextBoolean()) {
             act(9);
         }
-        for (int i = 0; i < CALLS && !wrong && calls.size() < 512; i++) {
+        for (int i = 0; i < CALLS && !wrong && calls.size() + MOST_AT_ONCE <= 512; i++) {
             act(r.nextInt(47));
         }
         return wrong;

@@ -1,99 +1,9 @@
 /** For each promise of ../shared/DOC.md, answers worked out by hand from its words. */
-public final class PromiseTest {
-    private static final int BEYOND = -1000000001;
-    private static final int NONE = -1000000002;
-    private static final int STATE = -1000000003;
-    private static final int FULL = -1000000004;
-    private static final int KIND = -1000000005;
-    private static final int MIN = Integer.MIN_VALUE;
-    private static final int MAX = Integer.MAX_VALUE;
-
-    private static int wrong = 0;
-    private static int promise = 0;
-
-    private static void due(String call, int got, int want) {
-        if (got != want) {
-            wrong++;
-            System.out.println("promise " + promise + ": " + call + " answered " + got + ", due is " + want);
-        }
-    }
-
-    private static void row(String calls, int[] got, int... want) {
-        for (int i = 0; i < want.length; i++) {
-            due(calls + ", the " + i + "th", got[i], want[i]);
-        }
-    }
-
-    // ---- small hands
-
-    private static int write(DustSills x, int use, String text) {
-        for (int i = 0; i < text.length(); i += 8) {
-            long word = 0;
-            int n = Math.min(8, text.length() - i);
-            for (int k = 0; k < n; k++) {
-                word |= (long) text.charAt(i + k) << 8 * k;
-            }
-            x.feed(word, n);
-        }
-        return x.text(use);
-    }
-
-    private static void fill(DustSills x, int sheet, int bits, int... numbers) {
-        x.sheet(sheet, bits, numbers.length);
-        for (int i = 0; i < numbers.length; i++) {
-            x.put(sheet, i, numbers[i]);
-        }
-    }
-
-    private static void lay(DustSills x, int... suns) {
-        for (int i = 0; i < suns.length; i++) {
-            x.sill(i, 0, suns[i]);
-        }
-    }
-
-    private static int[] counts(DustSills x) {
-        int[] all = new int[11];
-        for (int i = 0; i < all.length; i++) {
-            all[i] = x.count(i);
-        }
-        return all;
-    }
-
-    private static int[] errors(DustSills x) {
-        int[] all = new int[5];
-        for (int i = 0; i < all.length; i++) {
-            all[i] = x.told(i + 1);
-        }
-        return all;
-    }
-
-    private static int[] ofHeirs(DustSills x, int what) {
-        int[] all = new int[x.count(0)];
-        for (int i = 0; i < all.length; i++) {
-            all[i] = x.ofHeir(i, what);
-        }
-        return all;
-    }
-
-    /** One of each KIND, all with one m and one LOT, and so many DAYS LEFT. */
-    private static DustSills allKinds(int m, int lot, int left) {
-        DustSills x = new DustSills();
-        for (int kind = 0; kind < 7; kind++) {
-            x.heir(10 * kind + m, lot, left);
-        }
-        return x;
-    }
-
-    private static DustSills one(int km, int lot, int left) {
-        DustSills x = new DustSills();
-        x.heir(km, lot, left);
-        return x;
-    }
-
+public final class PromiseTest extends Hands {
     // ---- sills, the town
 
     private static void aNewObject() {
-        promise = 1;
+        promise(1);
         DustSills x = new DustSills();
         row("count", counts(x), 0, 0, 1, 7, 0, 48, 0, 0, 0, 0, 1);
         row("told", errors(x), 0, 0, 0, 0, 0);
@@ -115,7 +25,7 @@ public final class PromiseTest {
     }
 
     private static void sill() {
-        promise = 2;
+        promise(2);
         DustSills x = new DustSills();
         due("sill(0, 0, 9)", x.sill(0, 0, 9), 3);
         due("sill(0, 0, 0)", x.sill(0, 0, 0), 9);
@@ -140,7 +50,7 @@ public final class PromiseTest {
     }
 
     private static void ofSill() {
-        promise = 3;
+        promise(3);
         DustSills x = new DustSills();
         x.heir(0, 2, 0);
         x.heir(0, 2, 1);
@@ -160,7 +70,7 @@ public final class PromiseTest {
     }
 
     private static void town() {
-        promise = 4;
+        promise(4);
         DustSills x = new DustSills();
         due("town(0, 9)", x.town(0, 9), 1);
         due("town(0, 0)", x.town(0, 0), 9);
@@ -183,7 +93,7 @@ public final class PromiseTest {
     // ---- heirs
 
     private static void heir() {
-        promise = 5;
+        promise(5);
         DustSills x = new DustSills();
         due("heir(70, 0, 0)", x.heir(70, 0, 0), BEYOND);
         due("heir(-1, 0, 0)", x.heir(-1, 0, 0), BEYOND);
@@ -209,7 +119,7 @@ public final class PromiseTest {
     }
 
     private static void ofHeir() {
-        promise = 6;
+        promise(6);
         DustSills x = allKinds(3, 4, 99);
         x.sill(4, 0, 4);
         x.town(0, 5);
@@ -259,7 +169,7 @@ public final class PromiseTest {
     }
 
     private static void change() {
-        promise = 7;
+        promise(7);
         DustSills x = one(0, 4, 0);
         due("change(0, 0, 15)", x.change(0, 0, 15), 4);
         due("AT stays", x.ofHeir(0, 4), 4);
@@ -286,7 +196,7 @@ public final class PromiseTest {
     }
 
     private static void become() {
-        promise = 8;
+        promise(8);
         DustSills x = one(35, 4, 0);
         x.change(0, 2, 6);
         due("become(0, 69)", x.become(0, 69), 3);
@@ -300,7 +210,7 @@ public final class PromiseTest {
     }
 
     private static void as() {
-        promise = 9;
+        promise(9);
         DustSills x = allKinds(4, 0, 0);
         int[][] kinds = {{0}, {0, 1}, {0, 2}, {0, 3}, {0, 1, 4}, {0, 2, 5}, {0, 3, 6}};
         for (int h = 0; h < 7; h++) {
@@ -322,7 +232,7 @@ public final class PromiseTest {
     // ---- texts
 
     private static void feed() {
-        promise = 10;
+        promise(10);
         DustSills x = new DustSills();
         due("feed(.., 0)", x.feed(65, 0), BEYOND);
         due("feed(.., 9)", x.feed(65, 9), BEYOND);
@@ -345,7 +255,7 @@ public final class PromiseTest {
     }
 
     private static void text() {
-        promise = 11;
+        promise(11);
         DustSills x = new DustSills();
         due("text(0) of nothing", x.text(0), -10);
         Object[][] faults = {{"c+", -12}, {"c<d<p", -13}, {"c<d=p", -13}, {"c<d|p>c", 1}, {"c<d&p>c|d=0", 1}, {"l", -10},
@@ -375,7 +285,7 @@ public final class PromiseTest {
     }
 
     private static void law() {
-        promise = 12;
+        promise(12);
         DustSills x = new DustSills();
         due("held without a TEXT", x.law(0, 10, 0, 0), 9);
         due("held without a TEXT", x.law(0, -1, 0, 0), 0);
@@ -409,7 +319,7 @@ public final class PromiseTest {
     // ---- days
 
     private static void days() {
-        promise = 13;
+        promise(13);
         DustSills x = allKinds(3, 0, 0);
         lay(x, 4, 1, 2, 0, 5, 6, 7, 8, 9, 0, 0, 0, 0, 0, 0, 0);
         x.town(0, 5);
@@ -534,7 +444,7 @@ public final class PromiseTest {
     }
 
     private static void loose() {
-        promise = 14;
+        promise(14);
         DustSills x = one(0, 0, 0);
         int z = 1;
         int at = 0;
@@ -573,7 +483,7 @@ public final class PromiseTest {
     // ---- what would be
 
     private static void then() {
-        promise = 15;
+        promise(15);
         DustSills x = one(0, 3, 0);
         x.heir(0, 7, 2);
         due("then(0, 0)", x.then(0, 0), 3);
@@ -590,7 +500,7 @@ public final class PromiseTest {
     }
 
     private static void first() {
-        promise = 16;
+        promise(16);
         DustSills x = one(0, 3, 0);
         x.heir(40, 3, 0);
         x.heir(20, 13, 1);
@@ -617,7 +527,7 @@ public final class PromiseTest {
     }
 
     private static void meet() {
-        promise = 17;
+        promise(17);
         DustSills x = one(0, 3, 0);
         x.heir(40, 8, 0);
         x.heir(40, 8, 3);
@@ -640,7 +550,7 @@ public final class PromiseTest {
     }
 
     private static void bright() {
-        promise = 18;
+        promise(18);
         DustSills x = one(0, 3, 0);
         due("bright(0, 0)", x.bright(0, 0), 0);
         due("bright(0, 1)", x.bright(0, 1), 1);
@@ -660,7 +570,7 @@ public final class PromiseTest {
     }
 
     private static void place() {
-        promise = 19;
+        promise(19);
         DustSills x = one(0, 3, 0);
         lay(x, 0, 0, 9, 0, 0, 0, 9, 5);
         // By 1 DAY one had best come to 2 or 6, by 2 DAYS to 6 and 7.
@@ -684,7 +594,7 @@ public final class PromiseTest {
     }
 
     private static void cartsFor() {
-        promise = 20;
+        promise(20);
         DustSills x = one(0, 3, 0);
         x.heir(30, 0, 0);
         x.heir(0, 0, 9);
@@ -710,7 +620,7 @@ public final class PromiseTest {
     }
 
     private static void stop() {
-        promise = 21;
+        promise(21);
         DustSills x = one(0, 0, 0);
         lay(x, 0, 1, 9, 1, 9);
         // By 2 DAYS it goes to 1 and 2, for 10: no stop betters that. By 3 a stop at 2 gives 19, not 11.
@@ -733,7 +643,7 @@ public final class PromiseTest {
     }
 
     private static void swap() {
-        promise = 22;
+        promise(22);
         DustSills x = one(40, 0, 1);
         x.heir(30, 1, 1);
         x.heir(40, 2, 1);
@@ -794,7 +704,7 @@ public final class PromiseTest {
     }
 
     private static void sunFor() {
-        promise = 23;
+        promise(23);
         DustSills x = one(40, 5, 0);
         x.town(2, 100);
         due("sunFor(5, 0, 1)", x.sunFor(5, 0, 1), 0);
@@ -820,7 +730,7 @@ public final class PromiseTest {
     }
 
     private static void sweepFor() {
-        promise = 24;
+        promise(24);
         DustSills x = one(0, 0, 0);
         for (int i = 0; i < 16; i++) {
             x.sill(i, 0, i == 1 ? 9 : 0);
@@ -864,7 +774,7 @@ public final class PromiseTest {
     }
 
     private static void whence() {
-        promise = 25;
+        promise(25);
         DustSills x = one(3, 9, 50);
         due("whence(0, 0, 0), missing", x.whence(0, 0, 0), NONE);
         due("whence(0, 0, 2), missing", x.whence(0, 0, 2), BEYOND);
@@ -904,7 +814,7 @@ public final class PromiseTest {
     }
 
     private static void bare() {
-        promise = 26;
+        promise(26);
         DustSills x = one(0, 0, 0);
         x.heir(40, 0, 2);
         due("bare(0)", x.bare(0), 65534);
@@ -917,7 +827,7 @@ public final class PromiseTest {
     }
 
     private static void crowd() {
-        promise = 27;
+        promise(27);
         DustSills x = one(0, 1, 0);
         x.heir(40, 3, 0);
         x.heir(40, 3, 3);
@@ -945,7 +855,7 @@ public final class PromiseTest {
     }
 
     private static void light() {
-        promise = 28;
+        promise(28);
         DustSills x = one(0, 1, 0);
         x.town(2, 1000);
         due("light(0)", x.light(0), 0);
@@ -959,7 +869,7 @@ public final class PromiseTest {
     }
 
     private static void late() {
-        promise = 29;
+        promise(29);
         DustSills x = one(0, 1, 0);
         x.heir(0, 1, 7);
         x.heir(0, 1, 60);
@@ -981,7 +891,7 @@ public final class PromiseTest {
     }
 
     private static void odds() {
-        promise = 30;
+        promise(30);
         DustSills x = one(0, 0, 0);
         x.heir(0, 0, 2);
         x.heir(30, 0, 0);
@@ -1011,7 +921,7 @@ public final class PromiseTest {
     // ---- draws, voices, sheets, images, what is told
 
     private static void seed() {
-        promise = 31;
+        promise(31);
         DustSills x = new DustSills();
         due("seed(BEYOND)", x.seed(BEYOND), 1);
         due("seed(MIN)", x.seed(MIN), BEYOND);
@@ -1023,7 +933,7 @@ public final class PromiseTest {
     }
 
     private static void voices() {
-        promise = 32;
+        promise(32);
         DustSills x = new DustSills();
         for (int i = 0; i < 3; i++) {
             x.heir(0, 0, 0);
@@ -1058,7 +968,7 @@ public final class PromiseTest {
         speaks(x, 64, 1, 14, 11, 10);
         speaks(x, 64, 2, -1 ^ 2, 70, 40, 12);
         speaks(x, 64, 3, 14 - (14 ^ (-1 ^ 2)), 71, 11, 10, 13, 11, 10, 70, 40, 12);
-        promise = 32;
+        promise(32);
         due("x goes round", x.voice(2, 0, MAX), MIN + 1);
         x.become(2, 10);
         due("it goes round", x.voice(2, 0, MAX), (MIN + 1) * 3);
@@ -1074,9 +984,9 @@ public final class PromiseTest {
 
     private static void speaks(DustSills x, int km, int act, int answer, int... trace) {
         x.become(2, km);
-        promise = 32;
+        promise(32);
         due("voice of " + km + ", " + act, x.voice(2, act, 5), answer);
-        promise = 33;
+        promise(33);
         due("BODIES of " + km + ", " + act, x.count(9), trace.length);
         for (int i = 0; i < trace.length; i++) {
             due("trace(" + i + ") of " + km + ", " + act, x.trace(i), trace[i]);
@@ -1084,7 +994,7 @@ public final class PromiseTest {
     }
 
     private static void trace() {
-        promise = 33;
+        promise(33);
         DustSills x = one(0, 0, 0);
         due("trace(0) ahead", x.trace(0), NONE);
         x.voice(0, 3, 1);
@@ -1099,7 +1009,7 @@ public final class PromiseTest {
     }
 
     private static void sheet() {
-        promise = 34;
+        promise(34);
         DustSills x = one(0, 0, 0);
         due("sheet(4, 8, 1)", x.sheet(4, 8, 1), BEYOND);
         due("sheet(-1, 8, -1)", x.sheet(-1, 8, -1), BEYOND);
@@ -1129,7 +1039,7 @@ public final class PromiseTest {
     }
 
     private static void put() {
-        promise = 35;
+        promise(35);
         DustSills x = one(0, 5, 0);
         due("put(4, 0, 0)", x.put(4, 0, 0), BEYOND);
         due("put(-1, 0, 0)", x.put(-1, 0, 0), BEYOND);
@@ -1160,7 +1070,7 @@ public final class PromiseTest {
     }
 
     private static void move() {
-        promise = 36;
+        promise(36);
         DustSills x = new DustSills();
         fill(x, 0, 8, 1, 2, 3, 4, 5);
         fill(x, 1, 8, 9, 9, 9);
@@ -1189,16 +1099,8 @@ public final class PromiseTest {
         row("told", errors(x), 18, 2, 0, 0, 1);
     }
 
-    private static int[] suns(DustSills x, int n) {
-        int[] all = new int[n];
-        for (int i = 0; i < n; i++) {
-            all[i] = x.ofSill(i, 0);
-        }
-        return all;
-    }
-
     private static void sunsOfSheets() {
-        promise = 37;
+        promise(37);
         DustSills x = new DustSills();
         due("suns(0), missing", x.suns(0), NONE);
         due("suns(4)", x.suns(4), BEYOND);
@@ -1218,7 +1120,7 @@ public final class PromiseTest {
     }
 
     private static void judge() {
-        promise = 38;
+        promise(38);
         DustSills x = new DustSills();
         due("judge(0), missing", x.judge(0), NONE);
         due("judge(4)", x.judge(4), BEYOND);
@@ -1251,7 +1153,7 @@ public final class PromiseTest {
     }
 
     private static void images() {
-        promise = 39;
+        promise(39);
         DustSills x = one(33, 4, 0);
         x.sill(2, 0, 8);
         x.sill(2, 1, 9);
@@ -1286,7 +1188,7 @@ public final class PromiseTest {
         x.voice(0, 3, 0);
         x.sheet(0, 8, 3);
         x.put(0, 0, 7);
-        promise = 40;
+        promise(40);
         due("restore()", x.restore(), 3);
         was[9] = 7 + 2;
         row("count", counts(x), was);
@@ -1314,20 +1216,20 @@ public final class PromiseTest {
     }
 
     private static void imagesAnew() {
-        promise = 40;
+        promise(40);
         DustSills x = new DustSills();
         due("restore()", x.restore(), NONE);
-        promise = 39;
+        promise(39);
         due("image()", x.image(), 1);
         write(x, 0, "5");
         x.days(2);
         due("image()", x.image(), 2);
         x.days(2);
-        promise = 40;
+        promise(40);
         due("restore()", x.restore(), 2);
         due("law(0, ..)", x.law(0, 1, 0, 0), 5);
         due("told(2) is no part of it", x.told(2), 1);
-        promise = 39;
+        promise(39);
         due("image(), how often is no part of it", x.image(), 3);
         DustSills y = new DustSills();
         y.image();
@@ -1337,7 +1239,7 @@ public final class PromiseTest {
     }
 
     private static void tell() {
-        promise = 41;
+        promise(41);
         DustSills x = new DustSills();
         for (int i = 1; i <= 20; i++) {
             due("tell(i)", x.tell(i == 9 ? MIN : i), i);
@@ -1351,7 +1253,7 @@ public final class PromiseTest {
     }
 
     private static void check() {
-        promise = 42;
+        promise(42);
         DustSills x = one(0, 0, 0);
         x.town(2, 10);
         for (int i = 1; i <= 20; i++) {
@@ -1375,7 +1277,7 @@ public final class PromiseTest {
     }
 
     private static void count() {
-        promise = 43;
+        promise(43);
         DustSills x = one(0, 0, 0);
         x.heir(10, 3, 0);
         x.sill(0, 0, 9);
@@ -1393,7 +1295,7 @@ public final class PromiseTest {
     }
 
     private static void told() {
-        promise = 44;
+        promise(44);
         DustSills x = one(0, 0, 9);
         due("told(0)", x.told(0), BEYOND);
         due("told(6)", x.told(6), BEYOND);
@@ -1456,9 +1358,6 @@ public final class PromiseTest {
         check();
         count();
         told();
-        System.out.println(wrong == 0 ? "all promises hold" : wrong + " answers are not as due");
-        if (wrong != 0) {
-            System.exit(1);
-        }
+        end("all promises hold");
     }
 }
