@@ -204,15 +204,15 @@ public final class BoundsTest extends Hands {
     // ---- the arguments
 
     private static void ofTheTown() {
-        promise(2);
+        says("SUN of a SILL (what 0), TO (1) becomes v: what it was. BEYOND.");
         bounds("sill's SILL", 0, 3, 15, 3, (x, v) -> x.sill(v, 0, 5));
         bounds("sill's what", 0, 3, 1, 2, (x, v) -> x.sill(1, v, 5));
         bounds("sill's SUN", 0, 3, 9, 3, (x, v) -> x.sill(1, 0, v));
         bounds("sill's TO", 0, 2, 15, 2, (x, v) -> x.sill(1, 1, v));
-        promise(3);
+        says("Of a SILL: what 0 SUN, 1 TO, 2 HEIRS that are DUST AT it, 3 HEIRS whose LOT it is, as sets. BEYOND.");
         bounds("ofSill's SILL", 0, 1, 15, 0, (x, v) -> x.ofSill(v, 1));
         bounds("ofSill's what", 0, 3, 3, 1, (x, v) -> x.ofSill(0, v));
-        promise(4);
+        says("CARTS (what 0), SWEEP (1), GLORY (2) become v: what they were. BEYOND.");
         bounds("town's what", 0, 0, 2, 0, (x, v) -> x.town(v, 5));
         bounds("town's CARTS", 0, 0, 9, 0, (x, v) -> x.town(0, v));
         bounds("town's SWEEP", 1, 7, 30, 7, (x, v) -> x.town(1, v));
@@ -220,7 +220,7 @@ public final class BoundsTest extends Hands {
     }
 
     private static void ofHeirs() {
-        promise(5);
+        says("An HEIR (km: 10 times the KIND, and m) with a LOT, with so many DAYS LEFT: its number. BEYOND. FULL.");
         Act[] heir = {(x, v) -> x.heir(v, 0, 0), (x, v) -> x.heir(0, v, 0), (x, v) -> x.heir(0, 0, v)};
         String[] arguments = {"heir's km", "heir's LOT", "heir's LEFT"};
         int[] most = {69, 15, 99};
@@ -231,69 +231,69 @@ public final class BoundsTest extends Hands {
             due(arguments[i] + " " + most[i], heir[i].with(plain(8), most[i]), FULL);
             refusedBeside(arguments[i], -1, most[i] + 1, BEYOND, heir[i]);
         }
-        promise(6);
+        says("8 NEEDS, 9 1 if it is CONTENT, else 0. BEYOND.");
         bounds("ofHeir's HEIR", 0, 0, 7, 9, (x, v) -> x.ofHeir(v, 1));
         bounds("ofHeir's what", 0, 6, 9, 0, (x, v) -> x.ofHeir(7, v));
-        promise(7);
+        says("LOT (what 0), LEFT (1), AT (2), LIT (3) of an HEIR becomes v: what it was. BEYOND.");
         bounds("change's HEIR", 0, 0, 7, 7, (x, v) -> x.change(v, 0, 5));
         bounds("change's what", 0, 3, 3, 0, (x, v) -> x.change(3, v, 5));
         bounds("change's LOT", 0, 3, 15, 3, (x, v) -> x.change(3, 0, v));
         bounds("change's LEFT", 0, 0, 99, 0, (x, v) -> x.change(3, 1, v));
         bounds("change's AT", 0, 3, 15, 3, (x, v) -> x.change(3, 2, v));
         bounds("change's LIT", 0, 0, 9999, 0, (x, v) -> x.change(3, 3, v));
-        promise(8);
+        says("An HEIR becomes one of a KIND, with m (km): the KIND that it was. BEYOND.");
         bounds("become's HEIR", 0, 0, 7, 6, (x, v) -> x.become(v, 20));
         bounds("become's km", 0, 6, 69, 6, (x, v) -> x.become(7, v));
-        promise(9);
+        says("An HEIR as one of a KIND: m. BEYOND.");
         bounds("as's HEIR", 0, 0, 7, 9, (x, v) -> x.as(v, 0));
         bounds("as's KIND", 0, 9, 6, 9, (x, v) -> x.as(7, v));
     }
 
     private static void ofTextsAndDays() {
-        promise(10);
+        says("The n lowest bytes (1 .. 8) of a word, the lowest first, come to THE TAPE: how many there are. BEYOND. FULL.");
         bounds("feed's n", 1, 2, 8, 9, (x, v) -> x.feed(0x3131313131313131L, v));
-        promise(11);
+        says("THE TAPE, which is empty then, is the TEXT of a USE (0, 1), in place of one ahead: 1. BEYOND (THE TAPE stays).");
         bounds("text's USE", 0, 1, 1, 1, (x, v) -> x.text(v));
-        promise(12);
+        says("What a USE gives with its NAMES in order as a, b, c. BEYOND.");
         bounds("law's USE", 0, 5, 1, 5, (x, v) -> x.law(v, 5, 0, 0));
-        promise(13);
+        says("n (1 to 60) DAYS: GLORY then. BEYOND.");
         bounds("days's n", 1, 21, 60, 1260, (x, v) -> x.days(v));
-        promise(14);
+        says("n (1 to 40) DAYS by draws: likewise. BEYOND.");
         bounds("loose's n", 1, 21, 40, 840, (x, v) -> x.loose(v));
     }
 
     private static void ofThoughtsOfOne() {
-        promise(15);
+        says("BEHIND n DAYS: AT of one (-1: it is no DUST). BEYOND.");
         bounds("then's n", 0, 3, 60, 3, (x, v) -> x.then(v, 3));
         bounds("then's HEIR", 0, 0, 7, -1, (x, v) -> x.then(0, v));
-        promise(16);
+        says("FIRST: what 0 behind how many DAYS, 1 who. BEYOND. NONE: not by 60.");
         bounds("first's SILL", 0, 0, 15, NONE, (x, v) -> x.first(v, 0));
         bounds("first's what", 0, 0, 1, 4, (x, v) -> x.first(4, v));
-        promise(17);
+        says("MEET. BEYOND: also one and the same. NONE: not by 60.");
         bounds("meet's one", 0, NONE, 7, NONE, (x, v) -> x.meet(v, 3));
         bounds("meet's other", 0, NONE, 7, NONE, (x, v) -> x.meet(3, v));
-        promise(18);
+        says("BRIGHT. BEYOND. NONE: not by 60.");
         bounds("bright's HEIR", 0, 0, 7, 0, (x, v) -> x.bright(v, 0));
         bounds("bright's v", 0, 0, 9999, NONE, (x, v) -> x.bright(0, v));
-        promise(19);
+        says("PLACE: what 0 the SILL, 1 LIT. BEYOND.");
         bounds("place's HEIR", 0, 0, 7, 0, (x, v) -> x.place(v, 0, 0));
         bounds("place's n", 0, 0, 30, 90, (x, v) -> x.place(0, v, 1));
         bounds("place's what", 0, 0, 1, 3, (x, v) -> x.place(0, 1, v));
-        promise(20);
+        says("CARTS for a set. BEYOND. NONE: with none.");
         bounds("cartsFor's set", 0, 9, 255, NONE, (x, v) -> x.cartsFor(v, 0));
         // By 8 CARTS it goes 240 SILLS on, to where it was.
         bounds("cartsFor's n", 0, 9, 30, 8, (x, v) -> x.cartsFor(1, v));
-        promise(21);
+        says("STOP (-1). BEYOND.");
         bounds("stop's HEIR", 0, -1, 7, -1, (x, v) -> x.stop(v, 0));
         bounds("stop's n", 0, -1, 20, -1, (x, v) -> x.stop(0, v));
-        promise(24);
+        says("SWEEP for one. BEYOND.");
         bounds("sweepFor's HEIR", 0, 1, 7, 1, (x, v) -> x.sweepFor(v, 0));
         bounds("sweepFor's n", 0, 1, 60, 1, (x, v) -> x.sweepFor(0, v));
-        promise(25);
+        says("WHENCE, by a SHEET: what 0 how many, 1 the first. BEYOND. NONE: the SHEET is missing; (what 1) there is none.");
         bounds("whence's SHEET", 0, 4, 3, 7, (x, v) -> x.whence(v, 0, 0));
         bounds("whence's HEIR", 0, 7, 7, 7, (x, v) -> x.whence(3, v, 0));
         bounds("whence's what", 0, 7, 1, 0, (x, v) -> x.whence(3, 0, v));
-        promise(30);
+        says("ODDS: part 0 above, 1 below the line. BEYOND.");
         bounds("odds's HEIR", 0, 1, 7, 0, (x, v) -> x.odds(v, 0, 0));
         // By 0, 4 and 8 CARTS it goes round, to its LOT.
         bounds("odds's n", 0, 1, 60, 3, (x, v) -> x.odds(0, v, 0));
@@ -301,41 +301,41 @@ public final class BoundsTest extends Hands {
     }
 
     private static void ofThoughtsOfAll() {
-        promise(22);
+        says("SWAP (-1). BEYOND.");
         bounds("swap's n", 0, -1, 20, -1, (x, v) -> x.swap(v));
-        promise(23);
+        says("SUN for a SILL. BEYOND. NONE: with none.");
         bounds("sunFor's SILL", 0, 0, 15, 0, (x, v) -> x.sunFor(v, 0, 0));
         bounds("sunFor's v", 0, 0, 9999, NONE, (x, v) -> x.sunFor(0, v, 30));
         bounds("sunFor's n", 0, 0, 30, 0, (x, v) -> x.sunFor(0, 0, v));
-        promise(26);
+        says("BARE, n 0 to 60. BEYOND.");
         bounds("bare's n", 0, 65535 - 127, 60, 65535 - 127, (x, v) -> x.bare(v));
-        promise(27);
+        says("CROWD, n 0 to 60: what 0 the SILL, 1 how many. BEYOND.");
         bounds("crowd's n", 0, 1, 60, 1, (x, v) -> x.crowd(v, 1));
         bounds("crowd's what", 0, 0, 1, 1, (x, v) -> x.crowd(0, v));
-        promise(28);
+        says("LIGHT. BEYOND.");
         bounds("light's n", 0, 0, 60, 1260, (x, v) -> x.light(v));
-        promise(29);
+        says("LATE. BEYOND. NONE: not by 60.");
         bounds("late's set", 0, 0, 255, NONE, (x, v) -> x.late(v));
     }
 
     private static void ofVoicesAndTheRest() {
-        promise(32);
+        says("A VOICE of a HEIR: any number. BEYOND.");
         bounds("voice's HEIR", 0, 0, 7, 7, (x, v) -> x.voice(v, 0, 0));
         // Of the GIRL 7 with m 9: 16 less 16 ^ 8 ^ 7.
         bounds("voice's act", 0, 8, 3, -15, (x, v) -> x.voice(7, v, 1));
-        promise(33);
+        says("THE TRACE's i-th. NONE: there is none such.");
         due("trace's i 0", plain(8).trace(0), 13);
         due("trace's i 3", plain(8).trace(3), 12);
         due("trace's i 4", plain(8).trace(4), NONE);
         refusedBeside("trace's i", -1, 9, NONE, (x, v) -> x.trace(v));
-        promise(43);
+        says("10 z (any number). BEYOND.");
         bounds("count's what", 0, 8, 10, 1, (x, v) -> x.count(v));
-        promise(44);
+        says("(k 1 .. 5); BEYOND: another k (counted, too).");
         bounds("told's k", 1, 0, 5, 0, (x, v) -> x.told(v));
     }
 
     private static void ofSheets() {
-        promise(34);
+        says("1. BEYOND. STATE: n is below 0 (ahead of BEYOND of n).");
         bounds("sheet's SHEET", 0, 1, 3, 1, (x, v) -> x.sheet(v, 8, 1));
         for (int bits : new int[] {-1, 1, 7, 9, 15, 17, 31, 33, MIN, MAX}) {
             refused("sheet's bits " + bits, BEYOND, x -> x.sheet(0, bits, 1));
@@ -346,10 +346,12 @@ public final class BoundsTest extends Hands {
         refused("sheet's n MIN", STATE, x -> x.sheet(1, 32, MIN));
         refused("sheet's n 41", BEYOND, x -> x.sheet(0, 8, 41));
         refused("sheet's n MAX", BEYOND, x -> x.sheet(1, 32, MAX));
-        promise(35);
+        says("Number i of a SHEET becomes v (its lowest bits): 1. BEYOND: no such SHEET. NONE: it is missing. BEYOND: no "
+            + "such number.");
         bounds("put's SHEET", 0, 1, 3, 1, (x, v) -> x.put(v, 0, 1));
         bounds("put's i", 0, 1, 4, 1, (x, v) -> x.put(0, v, 1));
-        promise(36);
+        says("n. BEYOND: no such SHEET. NONE: one is missing. KIND: they are of unlike bits. BEYOND: n, i, or j is below 0, "
+            + "or they don't stand there.");
         bounds("move's SHEET", 0, 1, 3, 1, (x, v) -> x.move(v, 0, 0, 0, 1));
         bounds("move's other", 0, 1, 3, 1, (x, v) -> x.move(0, 0, v, 0, 1));
         bounds("move's i", 0, 1, 4, 1, (x, v) -> x.move(0, v, 0, 0, 1));
@@ -358,9 +360,9 @@ public final class BoundsTest extends Hands {
         refused("move of 40 numbers, and one more", BEYOND, x -> x.move(1, 0, 1, 0, 41));
         refused("move that goes round", BEYOND, x -> x.move(1, MAX, 1, 0, MAX));
         refused("move that goes round", BEYOND, x -> x.move(1, 0, 1, MAX, MAX));
-        promise(37);
+        says("or for which there is no SILL. BEYOND: no such SHEET. NONE: it is missing.");
         bounds("suns's SHEET", 0, 5, 3, 1, (x, v) -> x.suns(v));
-        promise(38);
+        says("-1: all are. BEYOND: no such SHEET. NONE: it is missing.");
         bounds("judge's SHEET", 0, 1, 3, 1, (x, v) -> x.judge(v));
     }
 
@@ -471,28 +473,29 @@ public final class BoundsTest extends Hands {
     }
 
     private static void anyNumbers() {
-        promise(12);
+        says("What a USE gives with its NAMES in order as a, b, c. BEYOND.");
         DustSills x = plain(8);
         for (int v : new int[] {MIN, MAX, LOW - 1, 0}) {
             due("law's a", x.law(0, v, 0, 0), v == MAX ? 9 : 0);
             due("law's b", x.law(0, 5, v, 0), 5);
             due("law's c", x.law(0, 5, 0, v), 5);
         }
-        promise(31);
+        says("z becomes v: what it was (any number).");
         due("seed's v", x.seed(MIN), 1);
         due("seed's v", x.seed(MAX), MIN);
         due("seed's v", x.seed(0), MAX);
-        promise(32);
+        says("A VOICE of a HEIR: any number. BEYOND.");
         due("voice's x", x.voice(0, 0, MIN), MIN);
         due("voice's x", x.voice(0, 0, MAX), MAX);
         due("voice's x", x.voice(1, 0, MAX), MIN);
-        promise(35);
+        says("Number i of a SHEET becomes v (its lowest bits): 1. BEYOND: no such SHEET. NONE: it is missing. BEYOND: no "
+            + "such number.");
         due("put's v", x.put(0, 0, MIN), 1);
         due("put's v", x.put(0, 0, MAX), 1);
-        promise(41);
+        says("One more number waits: how many.");
         due("tell's v", x.tell(MIN), 1);
         due("tell's v", x.tell(MAX), 2);
-        promise(10);
+        says("The n lowest bytes (1 .. 8) of a word, the lowest first, come to THE TAPE: how many there are. BEYOND. FULL.");
         due("feed's word", x.feed(Long.MIN_VALUE, 8), 9);
         due("feed's word", x.feed(Long.MAX_VALUE, 8), 17);
         row("told", errors(x), 0, 0, 0, 0, 0);

@@ -109,8 +109,11 @@ public final class EdgeTest extends Hands {
         due("AT", x.ofHeir(0, 4), -1);
         due("change(0, 0, 7) with 1 LEFT", x.change(0, 0, 7), 0);
         due("change(0, 3, 5) with 1 LEFT", x.change(0, 3, 5), 0);
+        due("AT, still", x.ofHeir(0, 4), -1);
         due("change(0, 1, 0)", x.change(0, 1, 0), 1);
         due("change(0, 2, 3) with 0 LEFT", x.change(0, 2, 3), 7);
+        due("change(0, 0, 9) with 0 LEFT", x.change(0, 0, 9), 7);
+        due("AT, where it was", x.ofHeir(0, 4), 3);
         row("told", errors(x), 0, 0, 2, 0, 0);
     }
 
@@ -516,6 +519,17 @@ public final class EdgeTest extends Hands {
         due("swap(20) by 20 LEFT", y.swap(20), 1);
         due("swap(21)", y.swap(21), BEYOND);
         due("swap(-1)", y.swap(-1), BEYOND);
+        // The gain is in what the one gets, or in what the other gets.
+        DustSills z = one(10, 0, 1);
+        z.heir(10, 1, 99);
+        due("swap(1), all alike", z.swap(1), -1);
+        z.sill(1, 0, 4);
+        due("swap(1), by the LOT that the lesser gets", z.swap(1), 1);
+        z.change(0, 1, 99);
+        z.change(1, 1, 1);
+        due("swap(1), as it is best", z.swap(1), -1);
+        z.sill(0, 0, 5);
+        due("swap(1), by the LOT that the other gets", z.swap(1), 1);
     }
 
     private static void sunFor() {
@@ -566,6 +580,9 @@ public final class EdgeTest extends Hands {
         due("sweepFor(0, 30)", x.sweepFor(0, 30), 30);
         due("sweepFor(0, 31)", x.sweepFor(0, 31), 30);
         due("sweepFor(0, 60)", x.sweepFor(0, 60), 30);
+        write(x, 1, "s<1&d=1");
+        due("sweepFor(0, 20), 1 and not 0", x.sweepFor(0, 20), 2);
+        write(x, 1, "s<1");
         x.days(1);
         due("sweepFor(0, 28) from DAY 1", x.sweepFor(0, 28), 29);
         due("sweepFor(0, 30) from DAY 1", x.sweepFor(0, 30), 30);
@@ -690,6 +707,10 @@ public final class EdgeTest extends Hands {
         y.days(1);
         due("late(32) a DAY on", y.late(32), 60);
         due("late(16) a DAY on", y.late(16), 59);
+        y.change(0, 1, 60);
+        due("late(1) by 60 LEFT", y.late(1), 60);
+        y.change(0, 1, 61);
+        due("late(1) by 61 LEFT", y.late(1), NONE);
     }
 
     private static void odds() {
@@ -779,6 +800,35 @@ public final class EdgeTest extends Hands {
                 }
             }
             row("told", errors(x), 0, 0, 0, 0, 0);
+        }
+    }
+
+    private static void bodies() {
+        says("BODIES: HEIR: 10 lies: x + n. 11 shines: lies(x) * 2. 12 drifts: x - m. 13 tells: shines(x) ^ drifts(x). LORD: 20 lies: "
+            + "super.lies(x) * 3. BARBER: 30 shines: super.shines(x) - drifts(1). AUNT: 40 drifts: -super.drifts(x). GENERAL: 50 "
+            + "tells: super.tells(x) - lies(2). CLERK: 60 shines: super.shines(x + 1). GIRL: 70 drifts: super.drifts(x) ^ n. 71 "
+            + "tells: shines(x) - super.tells(x). lies(..) is the BODY of its KIND, or of the next KIND above that has one; "
+            + "super.lies(..) that from the KIND above the BODY's on.");
+        String[][] want = {
+            {"10", "11 10", "12", "13 11 10 12"},
+            {"20 10", "11 20 10", "12", "13 11 20 10 12"},
+            {"10", "30 11 10 12", "12", "13 30 11 10 12 12"},
+            {"10", "11 10", "40 12", "13 11 10 40 12"},
+            {"20 10", "11 20 10", "12", "50 13 11 20 10 12 20 10"},
+            {"10", "60 30 11 10 12", "12", "13 60 30 11 10 12 12"},
+            {"10", "11 10", "70 40 12", "71 11 10 13 11 10 70 40 12"}};
+        for (int kind = 0; kind < 7; kind++) {
+            DustSills x = one(10 * kind, 0, 0);
+            for (int act = 0; act < 4; act++) {
+                x.voice(0, act, 1);
+                String[] bodies = want[kind][act].split(" ");
+                String of = " of KIND " + kind + ", act " + act;
+                due("BODIES" + of, x.count(9), bodies.length);
+                for (int i = 0; i < bodies.length; i++) {
+                    due("trace(" + i + ")" + of, x.trace(i), Integer.parseInt(bodies[i]));
+                }
+                due("trace(" + bodies.length + ")" + of, x.trace(bodies.length), NONE);
+            }
         }
     }
 
@@ -1063,13 +1113,28 @@ public final class EdgeTest extends Hands {
         due("told(1)", x.told(1), 1);
         write(x, 0, "7");
         write(x, 1, "8");
+        feedAll(x, "l+s*4");
+        layAll(x, 3);
+        x.tell(8);
+        x.tell(16);
         due("image()", x.image(), 2);
+        due("check()", x.check(), 0);
+        x.tell(9);
+        x.tell(9);
+        x.text(1);
+        feedAll(x, "d-d-d-d-d");
         write(x, 0, "c+1");
+        write(x, 1, "l+s+d");
+        feedAll(x, "d-d-d-d-d");
         x.restore();
+        row("laws, shorter again", new int[] {x.law(0, 1, 1, 1), x.law(1, 1, 1, 1)}, 7, 8);
+        due("bytes", x.count(7), 5);
+        due("text of the bytes that were", x.text(1), 1);
+        due("law of it", x.law(1, 1, 2, 3), 9);
+        x.restore();
+        due("numbers that wait", x.count(8), 2);
+        due("check() of those that waited", x.check(), 0);
         row("laws", new int[] {x.law(0, 1, 1, 1), x.law(1, 1, 1, 1)}, 7, 8);
-        x.text(0);
-        x.restore();
-        due("a TEXT in place of a longer one", x.law(0, 1, 1, 1), 7);
         pass(x, 9999);
         due("image() on DAY 9999", x.image(), 3);
         due("restore(), DAY", x.restore(), 9999);
@@ -1210,6 +1275,7 @@ public final class EdgeTest extends Hands {
         odds();
         draws();
         voices();
+        bodies();
         traces();
         sheets();
         puts();

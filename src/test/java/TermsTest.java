@@ -189,6 +189,21 @@ public final class TermsTest extends Hands {
         due("ofSill(15, 3), of the others", y.ofSill(15, 3), 254);
     }
 
+    private static void kinds() {
+        says("of KINDS: 0 HEIR; 1 LORD, 2 BARBER, 3 AUNT under HEIR; 4 GENERAL under LORD; 5 CLERK under BARBER; 6 GIRL under AUNT");
+        int[][] lines = {{0}, {0, 1}, {0, 2}, {0, 3}, {0, 1, 4}, {0, 2, 5}, {0, 3, 6}};
+        for (int kind = 0; kind < 7; kind++) {
+            DustSills x = one(10 * kind + 8, 0, 0);
+            int[] answers = {KIND, KIND, KIND, KIND, KIND, KIND, KIND};
+            for (int above : lines[kind]) {
+                answers[above] = 8;
+            }
+            for (int k = 0; k < 7; k++) {
+                due("one of KIND " + kind + " as one of " + k, x.as(0, k), answers[k]);
+            }
+        }
+    }
+
     private static void leftAndLit() {
         says("LEFT (0 to 99 DAYS; DUST is who has 0 LEFT)");
         DustSills x = new DustSills();
@@ -687,6 +702,8 @@ public final class TermsTest extends Hands {
             due("then(1, 0) with " + (i + 1) + " that are DUST", y.then(1, 0), i + 1);
             due("then(2, 0), all being DUST", y.then(2, 0), i + 9 & 15);
         }
+        y.change(0, 1, 9);
+        due("then(1, 7), all but 0 being DUST", y.then(1, 7), 7);
         says("s SUN of the SILL");
         DustSills z = one(40, 6, 0);
         write(z, 1, "l*10+s");
@@ -706,6 +723,7 @@ public final class TermsTest extends Hands {
         sweepAndGlory();
         day();
         heirs();
+        kinds();
         leftAndLit();
         whoComesToBeDust();
         allDrifts();
