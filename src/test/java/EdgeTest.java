@@ -419,6 +419,11 @@ public final class EdgeTest extends Hands {
         // From 1 it comes to 2, to the dark 3, is swept to 1 as its LOT, and comes to 2 again.
         due("place(0, 3, 0), swept to it", x.place(0, 3, 0), 1);
         due("place(0, 3, 1), swept to it", x.place(0, 3, 1), 18);
+        DustSills y = one(30, 9, 0);
+        due("place(0, 1, 0), by SILLS 0 to 15 alone", y.place(0, 1, 0), 0);
+        due("place(0, 1, 1), by SILLS 0 to 15 alone", y.place(0, 1, 1), 6);
+        y.sill(15, 0, 0);
+        due("place(0, 1, 0), the darkest being the last", y.place(0, 1, 0), 15);
     }
 
     private static void cartsFor() {
@@ -450,6 +455,16 @@ public final class EdgeTest extends Hands {
         due("cartsFor(1, 1) with 0", x.cartsFor(1, 1), 0);
         x.sill(10, 0, 3);
         due("cartsFor(1, 1) with 9", x.cartsFor(1, 1), 9);
+        DustSills y = one(0, 0, 0);
+        write(y, 0, "c+1");
+        due("cartsFor(1, 1), CARTS being 0 at least", y.cartsFor(1, 1), NONE);
+        due("odds(0, 1, 0), CARTS being 0 at least", y.odds(0, 1, 0), 0);
+        write(y, 0, "10-c");
+        due("cartsFor(1, 1), CARTS being 9 at most", y.cartsFor(1, 1), NONE);
+        due("odds(0, 1, 0), CARTS being 9 at most", y.odds(0, 1, 0), 0);
+        write(y, 0, "9-c");
+        due("cartsFor(1, 1) with 9, by which none come", y.cartsFor(1, 1), 9);
+        due("odds(0, 1, 1) with 9 alone", y.odds(0, 1, 1), 10);
     }
 
     private static void stop() {

@@ -704,6 +704,8 @@ public final class TermsTest extends Hands {
         }
         y.change(0, 1, 9);
         due("then(1, 7), all but 0 being DUST", y.then(1, 7), 7);
+        y.change(0, 1, 1);
+        due("then(1, 7), 0 coming to be DUST on the DAY", y.then(1, 7), 7);
         says("s SUN of the SILL");
         DustSills z = one(40, 6, 0);
         write(z, 1, "l*10+s");
