@@ -1137,9 +1137,8 @@ public final class EdgeTest extends Hands {
         x.tell(9);
         x.tell(9);
         x.text(1);
-        feedAll(x, "d-d-d-d-d");
-        write(x, 0, "c+1");
-        write(x, 1, "l+s+d");
+        due("text c+1", write(x, 0, "c+1"), 1);
+        due("text l+s+d", write(x, 1, "l+s+d"), 1);
         feedAll(x, "d-d-d-d-d");
         x.restore();
         row("laws, shorter again", new int[] {x.law(0, 1, 1, 1), x.law(1, 1, 1, 1)}, 7, 8);
