@@ -1,14 +1,21 @@
 import java.io.IOException;
+import java.lang.reflect.Array;
 import java.lang.reflect.Constructor;
 import java.lang.reflect.Field;
 import java.lang.reflect.Method;
 import java.lang.reflect.Modifier;
 import java.nio.file.Files;
 import java.nio.file.Path;
+import java.util.ArrayDeque;
+import java.util.ArrayList;
 import java.util.Arrays;
+import java.util.Deque;
+import java.util.IdentityHashMap;
 import java.util.List;
 import java.util.Set;
 import java.util.TreeSet;
+import java.util.regex.Matcher;
+import java.util.regex.Pattern;
 import java.util.stream.Collectors;
 import java.util.stream.Stream;
 
@@ -47,6 +54,7 @@ public final class RulesTest {
                 must(m.getReturnType() == int.class && !Modifier.isStatic(m.getModifiers()), sign(m) + " answers an int");
             } else {
                 must(Modifier.isPrivate(m.getModifiers()), sign(m) + " is private");
+                must(!(" " + FACE).contains(" " + m.getName() + "("), sign(m) + " bears a name of the face");
             }
         }
         Set<String> wanted = new TreeSet<>(List.of(FACE.split(" ")));
@@ -101,6 +109,60 @@ public final class RulesTest {
         must(bare.lines().filter(l -> l.startsWith("import")).allMatch(l -> l.equals("import java.util.Arrays;")), "imports");
         must(source.chars().allMatch(c -> c == '\n' || c >= 32 && c < 127), "plain signs alone");
         must(longestMethod(source) <= 60, "methods stay short");
+        library(bare);
+        makers(bare);
+    }
+
+    /** What the class uses of the library is less than rule 4 leaves, and should not grow unseen. */
+    private static void library(String bare) {
+        List<String> used = List.of("Arrays.fill", "System.arraycopy", "Integer.bitCount", "Math.max", "Math.min");
+        Matcher m = Pattern.compile("\\b([A-Z]\\w*\\.\\w+)\\(").matcher(bare);
+        while (m.find()) {
+            must(used.contains(m.group(1)), m.group(1) + " is not allowed");
+        }
+        Matcher ofTexts = Pattern.compile("\\.(length|charAt|isEmpty|equals|substring|toCharArray|append|clone|get|add)\\(").matcher(bare);
+        must(!ofTexts.find(), "of a String indexOf alone is used");
+    }
+
+    /** All calls of one run live in one room: objects are made where an object is made, and nowhere else. */
+    private static void makers(String bare) {
+        boolean making = false;
+        for (String line : bare.split("\n")) {
+            making = line.startsWith("    public DustSills()") || making && !line.equals("    }");
+            boolean field = line.matches(" {8}(private )?final [^(]* = new .*;");
+            must(making || field || !line.matches(".*\\bnew\\b.*"), "something is made by: " + line.trim());
+        }
+    }
+
+    /** So much of the room does one object take: objects and arrays, and their fields and elements. */
+    private static void room() throws IllegalAccessException {
+        IdentityHashMap<Object, Boolean> seen = new IdentityHashMap<>();
+        Deque<Object> open = new ArrayDeque<>(List.of(new DustSills()));
+        int parts = 0;
+        while (!open.isEmpty()) {
+            Object o = open.pop();
+            if (seen.put(o, true) == null) {
+                List<Object> inside = partsOf(o);
+                parts += inside.size();
+                inside.stream().filter(p -> p.getClass().isArray() || p.getClass().getName().startsWith("DustSills")).forEach(open::push);
+            }
+        }
+        must(seen.size() <= 100, "an object is some 100 objects and arrays at most, not " + seen.size());
+        must(parts <= 2000, "an object has some 2000 fields and elements at most, not " + parts);
+    }
+
+    private static List<Object> partsOf(Object o) throws IllegalAccessException {
+        List<Object> all = new ArrayList<>();
+        for (int i = 0; o.getClass().isArray() && i < Array.getLength(o); i++) {
+            all.add(Array.get(o, i));
+        }
+        for (Field f : o.getClass().getDeclaredFields()) {
+            if (!Modifier.isStatic(f.getModifiers())) {
+                f.setAccessible(true);
+                all.add(f.get(o));
+            }
+        }
+        return all;
     }
 
     private static int longestMethod(String source) {
@@ -119,10 +181,11 @@ public final class RulesTest {
         return longest;
     }
 
-    public static void main(String[] args) throws IOException {
+    public static void main(String[] args) throws IOException, IllegalAccessException {
         face();
         classes();
-        words(Files.readString(Path.of(System.getProperty("dust.source", "src/main/java/DustSills.java"))));
+        words(Files.readString(Path.of(System.getProperty("dust.root", "."), "src/main/java/DustSills.java")));
+        room();
         System.out.println(wrong == 0 ? "the rules are kept" : wrong + " rules are not kept");
         if (wrong != 0) {
             System.exit(1);
